@@ -1,6 +1,6 @@
 /**
  * The document once more, sentence by sentence and in another shape than the program (a cut is an
- * exception here, stripes are a row, deciphering is written out), to compare long runs of calls with.
+ * exception here, stripes are a row, deciphering is written out), to compare runs of calls with.
  */
 final class Model {
     static final int MARK = 1396855379;
@@ -105,6 +105,19 @@ final class Model {
         return e(a, word ^ t) ^ t;
     }
 
+    /** The disk that a format makes. */
+    static int[] volume(int a, int b, int passphrase, int seed) {
+        int[] words = new int[80];
+        words[0] = MARK;
+        words[2] = h(seed, 5);
+        words[1] = h(h(a, words[2]), b);
+        System.arraycopy(slotFor(passphrase, seed, a, b), 0, words, 4, 8);
+        for (int place = 48; place < 80; place++) {
+            words[place] = kept(a, b, (place - 48) / 4, place % 4, 0);
+        }
+        return words;
+    }
+
     private int word(int s, int i) {
         int t = tweak(b, s, i);
         return d(a, disk[48 + 4 * s + i] ^ t) ^ t;
@@ -168,13 +181,7 @@ final class Model {
     }
 
     int format(int newA, int newB, int passphrase, int seed) {
-        int[] volume = new int[80];
-        volume[2] = h(seed, 5);
-        volume[1] = h(h(newA, volume[2]), newB);
-        System.arraycopy(slotFor(passphrase, seed, newA, newB), 0, volume, 4, 8);
-        for (int place = 48; place < 80; place++) {
-            volume[place] = kept(newA, newB, (place - 48) / 4, place % 4, 0);
-        }
+        int[] volume = volume(newA, newB, passphrase, seed);
         return powered(() -> {
             put(0, 0);
             for (int place = 1; place < 80; place++) {

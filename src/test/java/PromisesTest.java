@@ -17,12 +17,6 @@ public final class PromisesTest {
         Integer.MIN_VALUE, Integer.MIN_VALUE + 1, -65536, -2, -1, 0, 1, 65535, 65536,
         Integer.MAX_VALUE - 1, Integer.MAX_VALUE};
 
-    // Found by trying all passphrases: on format(11, 22, 333, 5) this one too gives words with the
-    // right digest, but other words than 11 and 22.
-    private static final int TWIN = -892350157;
-    private static final int TWIN_A = -504801717;
-    private static final int TWIN_B = -984965049;
-
     private static final Checks checks = new Checks("PromisesTest");
 
     public static void main(String[] args) {
@@ -101,7 +95,7 @@ public final class PromisesTest {
     }
 
     private static void whatIsLeftOfACutStaysSet() {
-        RecordedVolume x = open(1, 2, 3, 4);
+        RecordedVolume x = RecordedVolume.open(1, 2, 3, 4);
         checks.due("cut(20)", x.cut(20), true);
         due("write of 16 writes", x.write(0, 0, 1), 0);
         due("a call without writes", x.read(0, 0), 1);
@@ -133,11 +127,11 @@ public final class PromisesTest {
         due("peek(6)", x.peek(6), -1705796822);
         due("peek(11)", x.peek(11), 649712049);
         due("peek(79)", x.peek(79), 1687745382);
-        disk("format(11, 22, 333, 4)", x, volume(11, 22, 333, 4));
+        disk("format(11, 22, 333, 4)", x, Model.volume(11, 22, 333, 4));
         for (int word : EDGES) {
             for (int other : EDGES) {
                 due("format", x.format(word, other, other, word), 0);
-                disk("format of edges", x, volume(word, other, other, word));
+                disk("format of edges", x, Model.volume(word, other, other, word));
                 due("unlock", x.unlock(other), 0);
                 due("read", x.read(3, 3), 0);
             }
@@ -146,7 +140,7 @@ public final class PromisesTest {
     }
 
     private static void formatOverAVolumeInUse() {
-        RecordedVolume x = open(1, 2, 3, 4);
+        RecordedVolume x = RecordedVolume.open(1, 2, 3, 4);
         x.add(30, 40);
         x.add(31, 41);
         x.add(32, 42);
@@ -156,22 +150,22 @@ public final class PromisesTest {
         due("change", x.change(2, 33, 43), CUT);
         due("peek(36)", x.peek(36), 1);
         due("format on an OFF device with a journal", x.format(5, 6, 7, 8), 0);
-        disk("format", x, volume(5, 6, 7, 8));
+        disk("format", x, Model.volume(5, 6, 7, 8));
         due("state()", x.state(), 1);
         due("unlock(7)", x.unlock(7), 0);
         due("format on an OPEN device", x.format(9, 10, 11, 12), 0);
         due("state()", x.state(), 1);
         due("read", x.read(0, 0), LOCKED);
         due("unlock(7)", x.unlock(7), WRONG);
-        disk("format", x, volume(9, 10, 11, 12));
+        disk("format", x, Model.volume(9, 10, 11, 12));
     }
 
     private static void formatCutShort() {
         checks.part("3 format, cut short");
-        int[] old = volume(1, 2, 3, 4);
-        int[] fresh = volume(5, 6, 7, 8);
+        int[] old = Model.volume(1, 2, 3, 4);
+        int[] fresh = Model.volume(5, 6, 7, 8);
         for (int n = 0; n <= 80; n++) {
-            RecordedVolume x = open(1, 2, 3, 4);
+            RecordedVolume x = RecordedVolume.open(1, 2, 3, 4);
             x.cut(n);
             due("format cut at " + n, x.format(5, 6, 7, 8), CUT);
             due("state()", x.state(), 0);
@@ -189,7 +183,7 @@ public final class PromisesTest {
 
     private static void mount() {
         checks.part("4 mount");
-        RecordedVolume x = open(1, 2, 3, 4);
+        RecordedVolume x = RecordedVolume.open(1, 2, 3, 4);
         due("mount() when OPEN", x.mount(), 1);
         due("state()", x.state(), 1);
         due("mount() when LOCKED", x.mount(), 1);
@@ -212,12 +206,12 @@ public final class PromisesTest {
 
     private static void mountSettlesTheJournal() {
         checks.part("4 mount, the journal");
-        int[] old = volume(1, 2, 3, 4);
+        int[] old = Model.volume(1, 2, 3, 4);
         int[] changed = old.clone();
         System.arraycopy(Model.slotFor(30, 40, 1, 2), 0, changed, 12, 8);
         for (int n = 0; n < 28; n++) {
             boolean ready = n >= 10;
-            RecordedVolume x = open(1, 2, 3, 4);
+            RecordedVolume x = RecordedVolume.open(1, 2, 3, 4);
             x.cut(n);
             due("add cut at " + n, x.add(30, 40), CUT);
             due("state()", x.state(), 0);
@@ -241,10 +235,10 @@ public final class PromisesTest {
     }
 
     private static void mountIsCutToo() {
-        int[] changed = volume(1, 2, 3, 4);
+        int[] changed = Model.volume(1, 2, 3, 4);
         System.arraycopy(Model.slotFor(30, 40, 1, 2), 0, changed, 12, 8);
         for (int n = 0; n < 18; n++) {
-            RecordedVolume x = open(1, 2, 3, 4);
+            RecordedVolume x = RecordedVolume.open(1, 2, 3, 4);
             x.cut(10);
             x.add(30, 40);
             x.cut(n);
@@ -255,7 +249,7 @@ public final class PromisesTest {
             due("mount()", x.mount(), 2);
             disk("mount() again after " + n, x, changed);
         }
-        RecordedVolume y = open(1, 2, 3, 4);
+        RecordedVolume y = RecordedVolume.open(1, 2, 3, 4);
         y.cut(9);
         y.add(30, 40);
         y.cut(4);
@@ -263,7 +257,7 @@ public final class PromisesTest {
         due("peek(40)", y.peek(40), 0);
         due("peek(41)", y.peek(41), Model.slotFor(30, 40, 1, 2)[3]);
         due("mount()", y.mount(), 1);
-        disk("mount()", y, volume(1, 2, 3, 4));
+        disk("mount()", y, Model.volume(1, 2, 3, 4));
     }
 
     // Promise 5
@@ -318,17 +312,18 @@ public final class PromisesTest {
         checks.part("5 unlock, another pair of words with the digest");
         RecordedVolume x = new RecordedVolume();
         x.format(11, 22, 333, 5);
-        due("unlock(TWIN)", x.unlock(TWIN), 0);
+        due("unlock by chance", x.unlock(ChanceKeys.PASSPHRASE), 0);
         due("state()", x.state(), 2);
         int kept = x.peek(48 + 4 * 2 + 1);
-        int t = Model.tweak(TWIN_B, 2, 1);
-        due("read(2, 1)", x.read(2, 1), Integer.toUnsignedLong(Model.d(TWIN_A, kept ^ t) ^ t));
+        int t = Model.tweak(ChanceKeys.B, 2, 1);
+        int word = Model.d(ChanceKeys.A, kept ^ t) ^ t;
+        due("read(2, 1)", x.read(2, 1), Integer.toUnsignedLong(word));
         due("write(2, 1, 5)", x.write(2, 1, 5), 0);
         due("read(2, 1)", x.read(2, 1), 5);
-        due("peek", x.peek(48 + 4 * 2 + 1), Model.kept(TWIN_A, TWIN_B, 2, 1, 5));
+        due("peek", x.peek(48 + 4 * 2 + 1), Model.kept(ChanceKeys.A, ChanceKeys.B, 2, 1, 5));
         due("peek", x.peek(48 + 4 * 2), Model.kept(11, 22, 2, 0, 0));
         due("add(9, 99)", x.add(9, 99), 1);
-        words("the slot for 9", x, 12, Model.slotFor(9, 99, TWIN_A, TWIN_B));
+        words("the slot for 9", x, 12, Model.slotFor(9, 99, ChanceKeys.A, ChanceKeys.B));
         due("unlock(333)", x.unlock(333), 0);
         due("read(2, 0)", x.read(2, 0), 0);
         due("unlock(9)", x.unlock(9), 1);
@@ -336,7 +331,7 @@ public final class PromisesTest {
         due("unlock(8)", x.unlock(8), WRONG);
         due("read(2, 1): as it was", x.read(2, 1), 5);
         due("change(0, 8, 98)", x.change(0, 8, 98), 0);
-        words("the slot for 8", x, 4, Model.slotFor(8, 98, TWIN_A, TWIN_B));
+        words("the slot for 8", x, 4, Model.slotFor(8, 98, ChanceKeys.A, ChanceKeys.B));
     }
 
     // Promise 6
@@ -353,7 +348,7 @@ public final class PromisesTest {
         due("lock() again", x.lock(), 0);
         due("read", x.read(0, 0), LOCKED);
         due("writes()", x.writes(), 81);
-        disk("lock()", x, volume(1, 2, 3, 4));
+        disk("lock()", x, Model.volume(1, 2, 3, 4));
         due("unlock(3)", x.unlock(3), 0);
         x.cut(0);
         x.revoke(0);
@@ -371,7 +366,7 @@ public final class PromisesTest {
         x.format(1, 2, 3, 4);
         refused(x, "add when LOCKED", () -> x.add(1, 1), LOCKED);
         x.unlock(3);
-        int[] want = volume(1, 2, 3, 4);
+        int[] want = Model.volume(1, 2, 3, 4);
         for (int k = 1; k < 4; k++) {
             int before = x.writes();
             due("add", x.add(30 + k, 40 + k), k);
@@ -415,7 +410,7 @@ public final class PromisesTest {
             refused(x, "change(" + k + ")", () -> x.change(slot, 1, 1), NO_SLOT);
         }
         due("change(0, 30, 40)", x.change(0, 30, 40), 0);
-        int[] want = volume(1, 2, 3, 4);
+        int[] want = Model.volume(1, 2, 3, 4);
         System.arraycopy(Model.slotFor(30, 40, 1, 2), 0, want, 4, 8);
         disk("change", x, want);
         due("writes()", x.writes(), 81 + 28);
@@ -435,7 +430,7 @@ public final class PromisesTest {
 
     /** The passphrase that opens the slot after a change from 3 to 5 that was cut. */
     private static int cutChange(int n) {
-        RecordedVolume x = open(1, 2, 3, 4);
+        RecordedVolume x = RecordedVolume.open(1, 2, 3, 4);
         x.cut(n);
         due("change cut at " + n, x.change(0, 5, 6), CUT);
         due("state()", x.state(), 0);
@@ -465,7 +460,7 @@ public final class PromisesTest {
         refused(x, "revoke(3)", () -> x.revoke(3), NO_SLOT);
         refused(x, "revoke(0) of the last", () -> x.revoke(0), LAST);
         x.add(30, 40);
-        int[] want = volume(1, 2, 3, 4);
+        int[] want = Model.volume(1, 2, 3, 4);
         Arrays.fill(want, 4, 12, 0);
         System.arraycopy(Model.slotFor(30, 40, 1, 2), 0, want, 12, 8);
         int before = x.writes();
@@ -486,7 +481,7 @@ public final class PromisesTest {
 
     private static void revokeEachSlot() {
         for (int k = 0; k < 4; k++) {
-            RecordedVolume x = open(1, 2, 3, 4);
+            RecordedVolume x = RecordedVolume.open(1, 2, 3, 4);
             x.add(31, 41);
             x.add(32, 42);
             x.add(33, 43);
@@ -499,7 +494,7 @@ public final class PromisesTest {
     }
 
     private static void revokeCutAt(int n) {
-        RecordedVolume x = open(1, 2, 3, 4);
+        RecordedVolume x = RecordedVolume.open(1, 2, 3, 4);
         x.add(31, 41);
         int before = x.writes();
         x.cut(n);
@@ -528,7 +523,7 @@ public final class PromisesTest {
             refused(x, "write(0, " + bad + ")", () -> x.write(0, bad, 1), BAD_ARGUMENT);
         }
         refused(x, "write(-1, 4)", () -> x.write(-1, 4, 1), BAD_ARGUMENT);
-        int[] want = volume(1, 2, 3, 4);
+        int[] want = Model.volume(1, 2, 3, 4);
         for (int s = 0; s < 8; s++) {
             for (int i = 0; i < 4; i++) {
                 int v = EDGES[(4 * s + i) % EDGES.length];
@@ -548,7 +543,7 @@ public final class PromisesTest {
     }
 
     private static void writeCutAt(int n) {
-        RecordedVolume x = open(1, 2, 3, 4);
+        RecordedVolume x = RecordedVolume.open(1, 2, 3, 4);
         x.write(6, 1, 11);
         x.write(6, 2, 12);
         int before = x.writes();
@@ -568,7 +563,7 @@ public final class PromisesTest {
     private static void writeOfWordsThatAreKeptAsZero() {
         checks.part("10 write, a word kept as 0");
         for (int i = 0; i < 4; i++) {
-            RecordedVolume x = open(1, 2, 3, 4);
+            RecordedVolume x = RecordedVolume.open(1, 2, 3, 4);
             int t = Model.tweak(2, 3, i);
             int v = Model.d(1, t) ^ t;
             due("write(3, " + i + ")", x.write(3, i, v), 0);
@@ -673,7 +668,7 @@ public final class PromisesTest {
         RecordedVolume x = new RecordedVolume();
         x.cut(60);
         x.format(11, 22, 333, 4);
-        int[] want = volume(11, 22, 333, 4);
+        int[] want = Model.volume(11, 22, 333, 4);
         for (int place = 1; place < 60; place++) {
             due("peek(" + place + ") when OFF", x.peek(place), want[place]);
         }
@@ -728,46 +723,15 @@ public final class PromisesTest {
         checks.due(call, got, want);
     }
 
-    private static RecordedVolume open(int a, int b, int passphrase, int seed) {
-        RecordedVolume x = new RecordedVolume();
-        due("format", x.format(a, b, passphrase, seed), 0);
-        due("unlock", x.unlock(passphrase), 0);
-        return x;
-    }
-
-    /** A call that answers so and changes nothing that can be seen. */
     private static void refused(RecordedVolume x, String call, LongSupplier made, long want) {
-        int[] before = x.words();
-        int state = x.state();
-        int writes = x.writes();
-        due(call, made.getAsLong(), want);
-        disk(call, x, before);
-        due("state() after " + call, x.state(), state);
-        due("writes() after " + call, x.writes(), writes);
+        checks.refused(x, call, made, want);
     }
 
     private static void disk(String call, RecordedVolume x, int[] want) {
-        words(call, x, 0, want);
+        checks.disk(call, x, want);
     }
 
     private static void words(String call, RecordedVolume x, int from, int[] want) {
-        int[] got = x.words();
-        for (int i = 0; i < want.length; i++) {
-            due("peek(" + (from + i) + ") after " + call, got[from + i], want[i]);
-        }
-    }
-
-    private static int[] volume(int a, int b, int passphrase, int seed) {
-        int[] words = new int[80];
-        words[0] = Model.MARK;
-        words[2] = Model.h(seed, 5);
-        words[1] = Model.h(Model.h(a, words[2]), b);
-        System.arraycopy(Model.slotFor(passphrase, seed, a, b), 0, words, 4, 8);
-        for (int s = 0; s < 8; s++) {
-            for (int i = 0; i < 4; i++) {
-                words[48 + 4 * s + i] = Model.kept(a, b, s, i, 0);
-            }
-        }
-        return words;
+        checks.words(call, x, from, want);
     }
 }
